@@ -60,6 +60,12 @@ public final class OracleTest {
         return signs.toString();
     }
 
+    /** A text that asks for x more than once, or one of many calls: by name such ones grow fast. */
+    private static String twice() {
+        String[] texts = {"mxx", "+xx", "?xxx", "fffffffx", "g+xxgxx", "+hxxxhxxx", "fgfgfgfx111"};
+        return texts[random.nextInt(texts.length)];
+    }
+
     private static String leaf(int function) {
         int chance = random.nextInt(20);
         if (chance == 0) {
@@ -81,7 +87,7 @@ public final class OracleTest {
             if (i < 4 && i == kept) {
                 continue;
             }
-            String signs = text(function, 0, 1 + random.nextInt(30));
+            String signs = random.nextInt(6) == 0 ? twice() : text(function, 0, 1 + random.nextInt(30));
             for (int j = 0; j < signs.length(); j++) {
                 due("say", t.say(signs.charAt(j)), j + 1);
             }

@@ -34,6 +34,7 @@ public final class PromisesTest {
         steps();
         unlike();
         told();
+        byNeedNotByName();
         changesReachAll();
         checks.close("PromisesTest");
     }
@@ -595,6 +596,7 @@ public final class PromisesTest {
         due("g y at its greatest", rows.matters(G, 1), 1);
         due("h x", rows.matters(H, 0), 0);
         due("h z at its greatest", rows.matters(H, 2), 1);
+        due("4 to 7 unlike 0 to 3", with("?x0?-x10?-x20?-x301", null, null, null).matters(F, 0), 1);
         due("NOTHING told is not gone through", with("0", null, null, "?0x!").matters(K, 1), 0);
     }
 
@@ -642,9 +644,31 @@ public final class PromisesTest {
         due("what -1", t.unlike(G, 0, 1, -1), OUTSIDE);
         due("no function", t.unlike(4, 9, 9, 9), UNKNOWN);
         due("no function", t.unlike(-1, 0, 0, 0), UNKNOWN);
+        NeedTables all = with(null, "1", null, "g!x");
+        due("ahead ! or a told NOTHING, else 1", all.unlike(K, 1, 2, 0), 81);
+        due("the first of all", all.unlike(K, 1, 2, 1), 0);
+        due("g", all.unlike(G, 3, 2, 0), 17);
+        NeedTables last = with("?-x7!3", null, null, "?-x4x?-y4y!");
+        due("where x is NOTHING alone", last.unlike(F, 1, 2, 0), 0);
         NeedTables spent = with("fx", null, null, null);
         due("SPENT, and NOTHING ahead", spent.unlike(F, 1, 3, 0), 1);
         due("where x is NOTHING", spent.unlike(F, 1, 3, 1), 8);
+    }
+
+    /** f asks twice, so that eight of it within one another are SPENT by name, and are not by need. */
+    private static void byNeedNotByName() {
+        NeedTables t = with("mxx", "ffffffffy", null, null);
+        due("by name", t.run(G, 5, 0, 0), 9);
+        due("by need", t.run(G, 5, 1, 0), 5);
+        due("each a call, m, x, x; and y", t.run(G, 5, 1, 1), 8 * 4 + 1);
+        due("numbers by need", t.ends(G, 0), 64);
+        due("none is SPENT", t.ends(G, 2), 0);
+        due("y matters by need", t.matters(G, 1), 1);
+        due("x does not", t.matters(G, 0), 0);
+        due("steps by name, SPENT", t.steps(G, 0), 64 * 300);
+        due("steps by need", t.steps(G, 1), 64 * (8 * 4 + 1));
+        due("unlike where y is told", t.unlike(G, 0, 1, 0), 72);
+        due("the first", t.unlike(G, 0, 1, 1), 0);
     }
 
     private static void told() {
@@ -682,6 +706,16 @@ public final class PromisesTest {
         write(t, "9");
         due("a refused one", t.body(F), NO);
         due("changes nothing", t.run(K, 11, 1, 1), 3);
-        due("nor what is said", t.run(K, 11, 1, 1), 3);
+        NeedTables again = with("x", "7", null, null);
+        due("f may by x", again.may(F, 1), 1);
+        due("f uses x", again.uses(F, 0), 1);
+        write(again, "fx");
+        again.body(F);
+        due("least anew", again.may(F, 1), 0);
+        due("least anew", again.uses(F, 0), 0);
+        write(again, "f" + ONES);
+        again.body(F);
+        due("thirty signs of f leave g alone", again.node(G, 0, 0), '7');
+        due("thirty signs of f leave g alone", again.run(G, 0, 1, 0), 7);
     }
 }
