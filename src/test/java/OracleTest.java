@@ -3,12 +3,13 @@ import java.util.List;
 import java.util.Random;
 
 /** Many texts made by chance (always the same ones), each answer against that of the Oracle. */
-public final class OracleTest {
-    private static final int PROGRAMS = 700;
+public final class OracleTest extends Given {
+    private static final int PROGRAMS = 1000;
+    /** Of an object's 512 calls: what a new BODY with its questions may take, and what all ARGUMENTS take. */
+    private static final int ROOM_FOR_A_CHANGE = 260, ROOM_FOR_ROWS = 50;
     private static final int PADS = 20000;
     private static final String SIGNS = "01234567!+-*m?fghkxyz";
 
-    private static final Checks checks = new Checks();
     private static final Random random = new Random(20261116);
 
     public static void main(String[] args) {
@@ -21,12 +22,8 @@ public final class OracleTest {
         checks.close("OracleTest");
     }
 
-    private static void due(String call, long got, long want) {
-        checks.due(call, got, want);
-    }
-
     private static void pad() {
-        NeedTables t = new NeedTables();
+        Subject t = new Subject();
         StringBuilder signs = new StringBuilder();
         int most = random.nextInt(31);
         boolean steep = random.nextBoolean();
@@ -78,7 +75,7 @@ public final class OracleTest {
     }
 
     private static void program(int number) {
-        NeedTables t = new NeedTables();
+        Subject t = new Subject();
         Oracle oracle = new Oracle();
         int changes = 4 + random.nextInt(3);
         int kept = random.nextInt(12);
@@ -86,6 +83,9 @@ public final class OracleTest {
             int function = i < 4 ? i : random.nextInt(4);
             if (i < 4 && i == kept) {
                 continue;
+            }
+            if (t.left() < ROOM_FOR_A_CHANGE + ROOM_FOR_ROWS) {
+                break;
             }
             String signs = random.nextInt(6) == 0 ? twice() : text(function, 0, 1 + random.nextInt(30));
             for (int j = 0; j < signs.length(); j++) {
@@ -95,6 +95,7 @@ public final class OracleTest {
             oracle.body(function, signs);
             if (i >= 3) {
                 tables(t, oracle);
+                nodes(t, oracle, (number + i) % 4);
                 someRuns(t, oracle);
             }
         }
@@ -102,7 +103,7 @@ public final class OracleTest {
         allArguments(t, oracle, function);
     }
 
-    private static void tables(NeedTables t, Oracle oracle) {
+    private static void tables(Subject t, Oracle oracle) {
         for (int function = 0; function < 4; function++) {
             int all = (1 << Oracle.ARGUMENTS[function]) - 1;
             for (int there = 0; there <= all; there++) {
@@ -118,11 +119,11 @@ public final class OracleTest {
             for (int i = 0; i < Oracle.ARGUMENTS[function]; i++) {
                 due("uses", t.uses(function, i), oracle.uses(function, i));
             }
-            nodes(t, oracle, function, all);
         }
     }
 
-    private static void nodes(NeedTables t, Oracle oracle, int function, int all) {
+    private static void nodes(Subject t, Oracle oracle, int function) {
+        int all = (1 << Oracle.ARGUMENTS[function]) - 1;
         List<Oracle.Text> texts = new ArrayList<>();
         oracle.bodies[function].list(texts);
         due("nodes", t.told(function + 1), texts.size());
@@ -137,8 +138,8 @@ public final class OracleTest {
         due("no node", t.part(function, texts.size(), 0), -1);
     }
 
-    private static void someRuns(NeedTables t, Oracle oracle) {
-        for (int i = 0; i < 60; i++) {
+    private static void someRuns(Subject t, Oracle oracle) {
+        for (int i = 0; i < 10; i++) {
             int function = random.nextInt(4);
             int arguments = random.nextInt((int) Math.pow(9, Oracle.ARGUMENTS[function]));
             int way = random.nextInt(4);
@@ -148,7 +149,7 @@ public final class OracleTest {
         }
     }
 
-    private static void allArguments(NeedTables t, Oracle oracle, int function) {
+    private static void allArguments(Subject t, Oracle oracle, int function) {
         int rows = (int) Math.pow(9, Oracle.ARGUMENTS[function]);
         int[][][] runs = new int[4][rows][];
         for (int way = 0; way < 4; way++) {
@@ -181,7 +182,7 @@ public final class OracleTest {
         soundness(oracle, function, runs);
     }
 
-    private static void unlike(NeedTables t, int function, int[][][] runs, int way, int other) {
+    private static void unlike(Subject t, int function, int[][][] runs, int way, int other) {
         int count = 0;
         int first = -6;
         for (int row = runs[way].length - 1; row >= 0; row--) {

@@ -1,14 +1,5 @@
 /** Each promise with ordinary inputs, the edges that the document names, and wrong inputs; worked out by hand. */
-public final class PromisesTest {
-    private static final int UNKNOWN = -1, OUTSIDE = -2, FULL = -4, NO = -5, NONE = -6;
-    private static final int F = 0, G = 1, H = 2, K = 3;
-    private static final int MIN = Integer.MIN_VALUE, MAX = Integer.MAX_VALUE;
-
-    /** 15 numbers and the 14 acts that add them. */
-    private static final String ONES = sum("1", "1", "1", "1", "1", "1", "1", "1", "1", "1", "1", "1", "1", "1", "1");
-
-    private static final Checks checks = new Checks();
-
+public final class PromisesTest extends Given {
     public static void main(String[] args) {
         newObject();
         say();
@@ -39,38 +30,8 @@ public final class PromisesTest {
         checks.close("PromisesTest");
     }
 
-    private static void due(String call, long got, long want) {
-        checks.due(call, got, want);
-    }
-
-    /** Says a text's signs, without looking at the answers. */
-    private static void write(NeedTables t, String text) {
-        for (int i = 0; i < text.length(); i++) {
-            t.say(text.charAt(i));
-        }
-    }
-
-    /** A new object with these BODIES; null: it stays as it is. */
-    private static NeedTables with(String f, String g, String h, String k) {
-        NeedTables t = new NeedTables();
-        String[] texts = {f, g, h, k};
-        for (int function = 0; function < 4; function++) {
-            if (texts[function] != null) {
-                write(t, texts[function]);
-                due("body(" + function + ") of " + texts[function], t.body(function), texts[function].length());
-            }
-        }
-        return t;
-    }
-
-    private static int faultOf(String text, int function) {
-        NeedTables t = new NeedTables();
-        write(t, text);
-        return t.fault(function);
-    }
-
     private static void newObject() {
-        NeedTables t = new NeedTables();
+        Subject t = new Subject();
         due("new told(0)", t.told(0), 0);
         due("new wipe", t.wipe(), 0);
         for (int function = 0; function < 4; function++) {
@@ -101,7 +62,7 @@ public final class PromisesTest {
     }
 
     private static void say() {
-        NeedTables t = new NeedTables();
+        Subject t = new Subject();
         int[] outside = {32, 127, 0, -1, 128, 33 + 256, 120 + 65536, MIN, MAX};
         for (int sign : outside) {
             due("say outside", t.say(sign), OUTSIDE);
@@ -118,8 +79,8 @@ public final class PromisesTest {
     }
 
     private static void wipe() {
-        NeedTables t = with(null, null, null, "+xy");
-        write(t, "+1");
+        Subject t = with(null, null, null, "+xy");
+        t.write("+1");
         due("wipe", t.wipe(), 2);
         due("wipe again", t.wipe(), 0);
         due("told(0) wiped", t.told(0), 0);
@@ -134,7 +95,7 @@ public final class PromisesTest {
 
     private static void fault() {
         for (int function : new int[] {-1, 4, MIN, MAX}) {
-            due("fault unknown", new NeedTables().fault(function), UNKNOWN);
+            due("fault unknown", new Subject().fault(function), UNKNOWN);
         }
         due("fault of nothing", faultOf("", F), 0);
         for (char sign = 33; sign <= 126; sign++) {
@@ -192,11 +153,11 @@ public final class PromisesTest {
     }
 
     private static void body() {
-        NeedTables t = new NeedTables();
+        Subject t = new Subject();
         for (int function : new int[] {-1, 4, MIN, MAX}) {
             due("body unknown", t.body(function), UNKNOWN);
         }
-        write(t, "+xy");
+        t.write("+xy");
         due("body(F) with y", t.body(F), NO);
         due("pad stays", t.told(0), 3);
         due("body stays", t.told(1), 1);
@@ -207,23 +168,23 @@ public final class PromisesTest {
         due("other bodies stay", t.told(2), 1);
         due("body of nothing", t.body(K), NO);
         due("body stays behind NO", t.node(K, 2, 0), 'y');
-        write(t, "7");
+        t.write("7");
         due("a shorter body", t.body(K), 1);
         due("its nodes", t.told(4), 1);
         due("old nodes are gone", t.node(K, 1, 0), UNKNOWN);
-        write(t, "f" + ONES);
+        t.write("f" + ONES);
         due("a body of thirty", t.body(G), 30);
         due("its last node", t.node(G, 29, 0), '1');
         due("behind it", t.node(G, 30, 0), UNKNOWN);
         due("its nodes within f", t.node(G, 1, 1), 29);
         due("the pad is empty behind it", t.told(0), 0);
-        write(t, "?" + ONES);
+        t.write("?" + ONES);
         due("thirty, and more must come", t.body(H), NO);
         due("the pad stays", t.told(0), 30);
     }
 
     private static void node() {
-        NeedTables t = with("?x3+1f-x1", null, "h?xyzk12+zz", null);
+        Subject t = with("?x3+1f-x1", null, "h?xyzk12+zz", null);
         int[][] f = {{'?', 9, 0}, {'x', 1, 1}, {'3', 1, 1}, {'+', 6, 1}, {'1', 1, 2}, {'f', 4, 2}, {'-', 3, 3},
             {'x', 1, 4}, {'1', 1, 4}};
         int[][] h = {{'h', 11, 0}, {'?', 4, 1}, {'x', 1, 2}, {'y', 1, 2}, {'z', 1, 2}, {'k', 3, 1}, {'1', 1, 2},
@@ -241,7 +202,7 @@ public final class PromisesTest {
         due("last of a deep text", with("fffffffffx", null, null, null).node(F, 9, 2), 9);
     }
 
-    private static void nodesAre(NeedTables t, int function, int[][] want) {
+    private static void nodesAre(Subject t, int function, int[][] want) {
         for (int i = 0; i < want.length; i++) {
             for (int what = 0; what < 3; what++) {
                 due("node(" + function + ", " + i + ", " + what + ")", t.node(function, i, what), want[i][what]);
@@ -250,7 +211,7 @@ public final class PromisesTest {
     }
 
     private static void runEnds() {
-        NeedTables t = with("x", "6", "fz", "gxy");
+        Subject t = with("x", "6", "fz", "gxy");
         for (int way = 0; way < 4; way++) {
             for (int x = 0; x < 8; x++) {
                 due("a told one is itself", t.run(F, x, way, 0), x);
@@ -279,7 +240,7 @@ public final class PromisesTest {
     private static void runActs() {
         String[] acts = {"+xy", "-xy", "*xy", "mxy"};
         for (int act = 0; act < 4; act++) {
-            NeedTables t = with(null, acts[act], null, null);
+            Subject t = with(null, acts[act], null, null);
             for (int x = 0; x < 8; x++) {
                 for (int y = 0; y < 8; y++) {
                     int[] want = {(x + y) % 8, (x - y + 8) % 8, x * y % 8, Math.min(x, y)};
@@ -290,7 +251,7 @@ public final class PromisesTest {
             due("second NOTHING", t.run(G, 8, 0, 1), 3);
             due("first NOTHING", t.run(G, 72, 1, 1), 2);
         }
-        NeedTables choice = with(null, null, "?xyz", null);
+        Subject choice = with(null, null, "?xyz", null);
         for (int x = 0; x < 8; x++) {
             due("choice", choice.run(H, 81 * x + 9 * 5 + 6, x & 3, 0), x == 0 ? 5 : 6);
             due("choice steps", choice.run(H, 81 * x + 9 * 5 + 6, x & 3, 1), 3);
@@ -304,30 +265,30 @@ public final class PromisesTest {
     }
 
     private static void runWays() {
-        NeedTables twice = with("+xx", null, null, "f*xy");
+        Subject twice = with("+xx", null, null, "f*xy");
         int[] steps = {10, 7, 7, 7};
         for (int way = 0; way < 4; way++) {
             due("twice way " + way, twice.run(K, 9 * 3 + 1, way, 0), 6);
             due("twice steps " + way, twice.run(K, 9 * 3 + 1, way, 1), steps[way]);
         }
         // g leaves y alone, so its text is worked ahead only by way 2.
-        NeedTables left = with(null, "+xx", null, "g+12+34");
+        Subject left = with(null, "+xx", null, "g+12+34");
         int[] leftSteps = {1 + 1 + 2 * 4, 1 + 1 + 4 + 1, 1 + 3 + 3 + 1 + 2, 1 + 3 + 1 + 2};
         for (int way = 0; way < 4; way++) {
             due("left way " + way, left.run(K, 0, way, 0), 6);
             due("left steps " + way, left.run(K, 0, way, 1), leftSteps[way]);
         }
         // The texts of a call are worked from the left: ! ahead of + by ways 2 and 3 too.
-        NeedTables order = with(null, "+yx", null, "g!+00");
+        Subject order = with(null, "+yx", null, "g!+00");
         due("by name y first", order.run(K, 0, 0, 1), 1 + 1 + 1 + 3 + 2);
         due("by need y first", order.run(K, 0, 1, 1), 1 + 1 + 1 + 3 + 2);
         due("ahead x first", order.run(K, 0, 2, 1), 2);
         due("safe x first", order.run(K, 0, 3, 1), 2);
-        NeedTables right = with(null, "+xy", null, "g+00!");
+        Subject right = with(null, "+xy", null, "g+00!");
         due("ahead x, then y", right.run(K, 0, 2, 1), 1 + 3 + 1);
         due("safe x, then y", right.run(K, 0, 3, 1), 1 + 3 + 1);
         // In way 3 an ARGUMENT that must not be is remembered, once it is asked for.
-        NeedTables safe = with(null, "?x0+yy", null, "gx+12");
+        Subject safe = with(null, "?x0+yy", null, "gx+12");
         due("safe: by need", safe.run(K, 9, 3, 0), 6);
         due("safe: once", safe.run(K, 9, 3, 1), 1 + 1 + 2 + 1 + 1 + 3 + 1);
         due("by name: twice", safe.run(K, 9, 0, 1), 1 + 3 + 1 + 4 + 4);
@@ -342,17 +303,17 @@ public final class PromisesTest {
 
     private static void runScopes() {
         // A text of a call is worked among the ARGUMENTS of the BODY in which it is written.
-        NeedTables swap = with(null, "-xy", null, "gyx");
+        Subject swap = with(null, "-xy", null, "gyx");
         for (int way = 0; way < 4; way++) {
             due("swapped", swap.run(K, 9 * 5 + 2, way, 0), 5);
         }
-        NeedTables nested = with("+xx", "f+xf1", null, "g-yxy");
+        Subject nested = with("+xx", "f+xf1", null, "g-yxy");
         int want = 2 * ((7 - 3) + 2) % 8;
         for (int way = 0; way < 4; way++) {
             due("nested", nested.run(K, 9 * 3 + 7, way, 0), want);
         }
         // f asks for x four times by name, each through two texts; by need each text is worked once.
-        NeedTables chain = with("+xx", "ffx", null, "g+120");
+        Subject chain = with("+xx", "ffx", null, "g+120");
         due("chain by name", chain.run(K, 0, 0, 0), 4 * 3 % 8);
         due("chain by need", chain.run(K, 0, 1, 0), 4 * 3 % 8);
         // k: call; f: call, +; x -> f x: arg, call, +, x -> x -> +12: arg, text x, +, 1, 2, then arg, text x, ..
@@ -360,36 +321,23 @@ public final class PromisesTest {
         due("chain steps by need", chain.run(K, 0, 1, 1), 1 + 1 + 1 + (1 + 1 + 1 + (1 + 1 + 3) + 1) + 1);
     }
 
-    /** A text that adds these texts, with as few around each as can be. */
-    private static String sum(String... texts) {
-        return sum(texts, 0, texts.length);
-    }
-
-    private static String sum(String[] texts, int from, int to) {
-        if (to - from == 1) {
-            return texts[from];
-        }
-        int middle = (from + to) / 2;
-        return "+" + sum(texts, from, middle) + sum(texts, middle, to);
-    }
-
     private static void runAtTheLastStep() {
         String k = sum("1", "1", "1", "1", "1", "1", "1", "1", "1", "1", "1");
         String f = sum("k00", "k00", "k00", "k00", "1", "1", "1");
-        NeedTables t = with(f, "1", sum("f0", "f0", "f0", "1", "1"), k);
+        Subject t = with(f, "1", sum("f0", "f0", "f0", "1", "1"), k);
         due("k steps", t.run(K, 0, 0, 1), 21);
         due("f steps", t.run(F, 0, 0, 1), 97);
         due("300 steps", t.run(H, 0, 0, 1), 300);
         due("end with a NUMBER", t.run(H, 0, 0, 0), (3 * (4 * 11 + 3) + 2) % 8);
-        write(t, sum("f0", "f0", "f0", "1", "g00"));
+        t.write(sum("f0", "f0", "f0", "1", "g00"));
         t.body(H);
         due("301 steps are not taken", t.run(H, 0, 1, 1), 300);
         due("SPENT", t.run(H, 0, 1, 0), 9);
-        write(t, sum("f0", "f0", "f0", "1", "!"));
+        t.write(sum("f0", "f0", "f0", "1", "!"));
         t.body(H);
         due("! as the 300th", t.run(H, 0, 1, 0), 8);
         due("! as the 300th, steps", t.run(H, 0, 1, 1), 300);
-        NeedTables endless = with("fx", "gxgyx", "h+x1yz", "+0kxy");
+        Subject endless = with("fx", "gxgyx", "h+x1yz", "+0kxy");
         for (int way = 0; way < 4; way++) {
             for (int function = 0; function < 4; function++) {
                 due("endless", endless.run(function, 0, way, 0), 9);
@@ -397,12 +345,12 @@ public final class PromisesTest {
             }
         }
         // Texts that hang on texts: each call's x asks for the x of the call ahead of it.
-        NeedTables deep = with("?+0!xf+x1", null, null, null);
+        Subject deep = with("?+0!xf+x1", null, null, null);
         due("! within an act", deep.run(F, 0, 1, 1), 4);
     }
 
     private static void runRefuses() {
-        NeedTables t = with("x", "x", "x", "x");
+        Subject t = with("x", "x", "x", "x");
         int[] rows = {9, 81, 729, 81};
         for (int function = 0; function < 4; function++) {
             due("last row", t.run(function, rows[function] - 1, 0, 0), 8);
@@ -420,7 +368,7 @@ public final class PromisesTest {
     }
 
     private static void may() {
-        NeedTables t = with("x", "?xy3", "+x?yz1", "m!x");
+        Subject t = with("x", "?xy3", "+x?yz1", "m!x");
         int[][] want = {{0, 1}, {0, 1, 0, 1}, {0, 0, 0, 1, 0, 0, 0, 1}, {0, 0, 0, 0}};
         for (int function = 0; function < 4; function++) {
             for (int there = 0; there < want[function].length; there++) {
@@ -436,28 +384,28 @@ public final class PromisesTest {
     }
 
     private static void leastTables() {
-        NeedTables endless = with("fx", null, null, null);
+        Subject endless = with("fx", null, null, null);
         due("nothing comes of itself alone", endless.may(F, 1), 0);
-        NeedTables ring = with("gx1", "hxyy", "kxz", "?x1fy");
+        Subject ring = with("gx1", "hxyy", "kxz", "?x1fy");
         due("around a ring x may", ring.may(K, 1), 1);
         due("y alone not", ring.may(K, 2), 0);
         due("f needs x", ring.may(F, 0), 0);
         due("f by x", ring.may(F, 1), 1);
         due("h without y", ring.may(H, 1 + 4), 1);
         due("h without x", ring.may(H, 2 + 4), 0);
-        NeedTables swap = with(null, "?xygyx", null, null);
+        Subject swap = with(null, "?xygyx", null, null);
         due("both", swap.may(G, 3), 1);
         due("x alone: y is not there, g(y, x) neither", swap.may(G, 1), 0);
-        NeedTables third = with(null, "?x1gyx", null, null);
+        Subject third = with(null, "?x1gyx", null, null);
         due("x alone", third.may(G, 1), 1);
         due("y alone: the first must be", third.may(G, 2), 0);
-        NeedTables useless = with("f!", "1", null, null);
+        Subject useless = with("f!", "1", null, null);
         due("an unused text may be nothing", with("g!!", "1", null, null).may(F, 0), 1);
         due("a call of itself with nothing", useless.may(F, 1), 0);
     }
 
     private static void must() {
-        NeedTables t = with("x", "?xy3", "+x?yz1", "m!x");
+        Subject t = with("x", "?xy3", "+x?yz1", "m!x");
         due("must F", t.must(F), 1);
         due("must G", t.must(G), 1);
         due("must H", t.must(H), 1 + 2);
@@ -470,7 +418,7 @@ public final class PromisesTest {
     }
 
     private static void joint() {
-        NeedTables t = with("3", "?0xy", "+x?0yz", "+xy");
+        Subject t = with("3", "?0xy", "+x?0yz", "+xy");
         due("no joint", t.joint(F, -1), 0);
         due("no joint 0", t.joint(F, 0), NONE);
         due("x or y", t.joint(G, -1), 1);
@@ -488,14 +436,14 @@ public final class PromisesTest {
         due("joint MAX", t.joint(K, MAX), NONE);
         due("joint unknown", t.joint(4, -1), UNKNOWN);
         due("joint unknown", t.joint(-1, 0), UNKNOWN);
-        NeedTables two = with(null, null, "+?0xy?0yz", null);
+        Subject two = with(null, null, "+?0xy?0yz", null);
         due("pairs", two.joint(H, -1), 2);
         due("x with y", two.joint(H, 0), 3);
         due("y with z", two.joint(H, 1), 6);
-        NeedTables three = with(null, null, "?0x?0yz", null);
+        Subject three = with(null, null, "?0x?0yz", null);
         due("all three", three.joint(H, -1), 1);
         due("all three", three.joint(H, 0), 7);
-        NeedTables pairs = with(null, null, "+?0xy+?0yz?0xz", null);
+        Subject pairs = with(null, null, "+?0xy+?0yz?0xz", null);
         due("three pairs", pairs.joint(H, -1), 3);
         due("3", pairs.joint(H, 0), 3);
         due("5", pairs.joint(H, 1), 5);
@@ -503,7 +451,7 @@ public final class PromisesTest {
     }
 
     private static void uses() {
-        NeedTables t = with("+xx", "fx", "?x+yyz", "+xgyx");
+        Subject t = with("+xx", "fx", "?x+yyz", "+xgyx");
         due("f many", t.uses(F, 0), 2);
         due("g many by f", t.uses(G, 0), 2);
         due("g none", t.uses(G, 1), 0);
@@ -519,24 +467,24 @@ public final class PromisesTest {
         due("no argument", t.uses(H, -1), UNKNOWN);
         due("no function", t.uses(4, 0), UNKNOWN);
         due("no function", t.uses(-1, 0), UNKNOWN);
-        NeedTables least = with("fx", "gyx", "!", "?x0kxy");
+        Subject least = with("fx", "gyx", "!", "?x0kxy");
         due("itself alone: none", least.uses(F, 0), 0);
         due("in a ring: none", least.uses(G, 1), 0);
         due("! none", least.uses(H, 0), 0);
         due("once, and again by itself: many", least.uses(K, 0), 2);
         due("by itself alone: none", least.uses(K, 1), 0);
-        NeedTables none = with("1", null, null, "f+xx");
+        Subject none = with("1", null, null, "f+xx");
         due("many, none times", none.uses(K, 0), 0);
-        NeedTables greater = with("?0xx", null, null, null);
+        Subject greater = with("?0xx", null, null, null);
         due("the greater one, not both", greater.uses(F, 0), 1);
         due("the first and the greater one", with("?xx1", null, null, null).uses(F, 0), 2);
-        NeedTables through = with("x", "x", null, "+fxgyy");
+        Subject through = with("x", "x", null, "+fxgyy");
         due("one time one", through.uses(K, 0), 1);
         due("one time one, none times one", through.uses(K, 1), 1);
     }
 
     private static void part() {
-        NeedTables t = with("?x3+1f-x1", "x", null, "?x!gy!");
+        Subject t = with("?x3+1f-x1", "x", null, "?x!gy!");
         due("f root", t.part(F, 0, 0), 1);
         due("f root must", t.part(F, 0, 1), 1);
         due("f number", t.part(F, 2, 1), 0);
@@ -559,7 +507,7 @@ public final class PromisesTest {
     }
 
     private static void ends() {
-        NeedTables t = with("?x!1", "?x?y!gxy?yx1", "+x+yz", "kxy");
+        Subject t = with("?x!1", "?x?y!gxy?yx1", "+x+yz", "kxy");
         due("f numbers", t.ends(F, 0), 7);
         due("f nothing", t.ends(F, 1), 1);
         due("f spent", t.ends(F, 2), 0);
@@ -576,7 +524,7 @@ public final class PromisesTest {
     }
 
     private static void matters() {
-        NeedTables t = with("*x0", "?x1?y1!", "?-x3y0", "*4y");
+        Subject t = with("*x0", "?x1?y1!", "?-x3y0", "*4y");
         due("f: times 0", t.matters(F, 0), 0);
         due("g x", t.matters(G, 0), 1);
         due("g y: NOTHING is another end", t.matters(G, 1), 1);
@@ -590,7 +538,7 @@ public final class PromisesTest {
         due("no argument", t.matters(H, -1), UNKNOWN);
         due("no function", t.matters(4, 0), UNKNOWN);
         due("SPENT is another end", with("?x0fx", null, null, null).matters(F, 0), 1);
-        NeedTables rows = with("?-x77!", "?m1-y701", "?-z701", "x");
+        Subject rows = with("?-x77!", "?m1-y701", "?-z701", "x");
         due("only one differs", rows.matters(F, 0), 1);
         due("g x", rows.matters(G, 0), 0);
         due("g y at its greatest", rows.matters(G, 1), 1);
@@ -601,7 +549,7 @@ public final class PromisesTest {
     }
 
     private static void steps() {
-        NeedTables t = with("+xx", "?x!+1y", null, "f*xy");
+        Subject t = with("+xx", "?x!+1y", null, "f*xy");
         due("f", t.steps(F, 0), 8 * 3);
         for (int way = 0; way < 4; way++) {
             due("g: where way 1 ends with a NUMBER", t.steps(G, way), 56 * 5);
@@ -613,15 +561,15 @@ public final class PromisesTest {
         due("no function", t.steps(4, 4), UNKNOWN);
         due("no function", t.steps(-1, 0), UNKNOWN);
         // Way 2 does not end with a NUMBER here, but its steps count all the same.
-        NeedTables other = with("fx", "1", null, "gxfy");
+        Subject other = with("fx", "1", null, "gxfy");
         due("by need", other.steps(K, 1), 64 * 2);
         due("ahead, SPENT", other.steps(K, 2), 64 * 300);
-        NeedTables nothing = with(null, "1", null, "g!x");
+        Subject nothing = with(null, "1", null, "g!x");
         due("ahead, NOTHING", nothing.steps(K, 2), 64 * 2);
     }
 
     private static void unlike() {
-        NeedTables t = with("x", "1", "?xyz", "?x2y");
+        Subject t = with("x", "1", "?xyz", "?x2y");
         due("alike", t.unlike(F, 0, 2, 0), 0);
         due("none", t.unlike(F, 0, 2, 1), NONE);
         due("g: some NOTHING", t.unlike(G, 1, 2, 0), 17);
@@ -644,20 +592,20 @@ public final class PromisesTest {
         due("what -1", t.unlike(G, 0, 1, -1), OUTSIDE);
         due("no function", t.unlike(4, 9, 9, 9), UNKNOWN);
         due("no function", t.unlike(-1, 0, 0, 0), UNKNOWN);
-        NeedTables all = with(null, "1", null, "g!x");
+        Subject all = with(null, "1", null, "g!x");
         due("ahead ! or a told NOTHING, else 1", all.unlike(K, 1, 2, 0), 81);
         due("the first of all", all.unlike(K, 1, 2, 1), 0);
         due("g", all.unlike(G, 3, 2, 0), 17);
-        NeedTables last = with("?-x7!3", null, null, "?-x4x?-y4y!");
+        Subject last = with("?-x7!3", null, null, "?-x4x?-y4y!");
         due("where x is NOTHING alone", last.unlike(F, 1, 2, 0), 0);
-        NeedTables spent = with("fx", null, null, null);
+        Subject spent = with("fx", null, null, null);
         due("SPENT, and NOTHING ahead", spent.unlike(F, 1, 3, 0), 1);
         due("where x is NOTHING", spent.unlike(F, 1, 3, 1), 8);
     }
 
     /** f asks twice, so that eight of it within one another are SPENT by name, and are not by need. */
     private static void byNeedNotByName() {
-        NeedTables t = with("mxx", "ffffffffy", null, null);
+        Subject t = with("mxx", "ffffffffy", null, null);
         due("by name", t.run(G, 5, 0, 0), 9);
         due("by need", t.run(G, 5, 1, 0), 5);
         due("each a call, m, x, x; and y", t.run(G, 5, 1, 1), 8 * 4 + 1);
@@ -672,8 +620,8 @@ public final class PromisesTest {
     }
 
     private static void told() {
-        NeedTables t = with("fx", "+x+y1", "?xyz", null);
-        write(t, "12");
+        Subject t = with("fx", "+x+y1", "?xyz", null);
+        t.write("12");
         int[] want = {2, 2, 5, 4, 1};
         for (int what = 0; what < 5; what++) {
             due("told(" + what + ")", t.told(what), want[what]);
@@ -686,34 +634,34 @@ public final class PromisesTest {
 
     /** What was answered once is answered anew when a BODY that is called has changed. */
     private static void changesReachAll() {
-        NeedTables t = with("x", null, null, "+fxfy");
+        Subject t = with("x", null, null, "+fxfy");
         due("before", t.run(K, 11, 1, 0), 3);
         due("before", t.ends(K, 0), 64);
         due("before", t.must(K), 3);
         due("before", t.uses(K, 0), 1);
-        write(t, "?01!");
+        t.write("?01!");
         due("a new f", t.body(F), 4);
         due("behind", t.run(K, 11, 1, 0), 2);
         due("behind", t.must(K), 0);
         due("behind", t.uses(K, 0), 0);
         due("behind", t.part(K, 1, 1), 0);
-        write(t, "!");
+        t.write("!");
         t.body(F);
         due("behind !", t.run(K, 11, 1, 0), 8);
         due("behind !", t.ends(K, 0), 0);
         due("behind !", t.steps(K, 1), 0);
         due("behind !", t.joint(K, 0), 0);
-        write(t, "9");
+        t.write("9");
         due("a refused one", t.body(F), NO);
         due("changes nothing", t.run(K, 11, 1, 1), 3);
-        NeedTables again = with("x", "7", null, null);
+        Subject again = with("x", "7", null, null);
         due("f may by x", again.may(F, 1), 1);
         due("f uses x", again.uses(F, 0), 1);
-        write(again, "fx");
+        again.write("fx");
         again.body(F);
         due("least anew", again.may(F, 1), 0);
         due("least anew", again.uses(F, 0), 0);
-        write(again, "f" + ONES);
+        again.write("f" + ONES);
         again.body(F);
         due("thirty signs of f leave g alone", again.node(G, 0, 0), '7');
         due("thirty signs of f leave g alone", again.run(G, 0, 1, 0), 7);
