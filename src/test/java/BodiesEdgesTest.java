@@ -28,6 +28,7 @@ public final class BodiesEdgesTest extends Given {
         wipeEmpties();
         faultOfThePad();
         bodyTakesThePad();
+        fourFullBodies();
         bodyRefuses();
         nodesAsTheyAreWritten();
         nodesWithAllWithin();
@@ -433,6 +434,46 @@ public final class BodiesEdgesTest extends Given {
             due("NODES", t.told(function + 1), 3);
             due("it runs", t.run(function, 0, 1, 0), 0);
             due("in three steps", t.run(function, 0, 1, 1), 3);
+        }
+    }
+
+    /** A text of thirty signs that comes to 13 times a NUMBER. */
+    private static String thirty(int number) {
+        return "?0" + ones(13).replace("1", "" + number) + "+0" + number;
+    }
+
+    private static void fourFullBodies() {
+        checks.sentence("The PAD becomes the BODY of a FUNCTION (of this one alone, though all four have thirty signs)");
+        int[][] orders = {{F, G, H, K}, {K, H, G, F}, {G, F, K, H}};
+        for (int[] order : orders) {
+            Subject t = new Subject();
+            for (int function : order) {
+                t.put(function, thirty(function + 3));
+            }
+            fullBodiesAre(t, -1);
+        }
+        for (int shorter = 0; shorter < 4; shorter++) {
+            Subject t = with(thirty(3), thirty(4), thirty(5), thirty(6));
+            t.put(shorter, "7");
+            due("the shorter one", t.node(shorter, 0, 0), '7');
+            due("the shorter one", t.run(shorter, 0, 0, 0), 7);
+            fullBodiesAre(t, shorter);
+        }
+    }
+
+    private static void fullBodiesAre(Subject t, int but) {
+        for (int function = 0; function < 4; function++) {
+            if (function != but) {
+                String text = thirty(function + 3);
+                for (int node = 0; node < 30; node++) {
+                    due("sign " + node + " of " + function, t.node(function, node, 0), text.charAt(node));
+                }
+                due("all within " + function, t.node(function, 0, 1), 30);
+                due("the last of " + function, t.node(function, 29, 2), 2);
+                due("run of " + function, t.run(function, 0, 0, 0), 13 * (function + 3) % 8);
+                due("uses of " + function, t.uses(function, 0), 0);
+                due("may of " + function, t.may(function, 0), 1);
+            }
         }
     }
 

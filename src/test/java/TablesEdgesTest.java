@@ -195,6 +195,14 @@ public final class TablesEdgesTest extends Given {
         both.put(H, "?0+xzgyz");
         table(both, H, "00000101");
         table(both, F, "00");
+        // All four have some sets at once, and one of them has more behind that.
+        Subject atOnce = with("x", "x", "x", "?0xfy");
+        table(atOnce, K, "0111");
+        for (int function = 0; function < 4; function++) {
+            Subject one = with("x", "x", "x", "x");
+            one.put(function, "?0xf?0xf0");
+            due("of none, by f of a NUMBER", one.may(function, 0), 1);
+        }
         // The FUNCTIONS have 18 sets together; here each one waits for the one before it, as far as to no ARGUMENT at all.
         Subject most = with("hxxx", "+?0gffkh0xyxx+yx0", "+0?+gxy?0?xfyzkhzyyx0x", "fhxykx0");
         table(most, F, "11");
