@@ -625,7 +625,8 @@ public final class NeedTables {
         }
 
         private int textRow(int place, int text) {
-            return rowAt(bodies.textPlace(place, text));
+            int at = bodies.textPlace(place, text);
+            return isPlace(at) ? rows[at] : 0;
         }
 
         private int rowAt(int place) {
@@ -754,7 +755,8 @@ public final class NeedTables {
         }
 
         private int textCount(int place, int text) {
-            return countAt(bodies.textPlace(place, text));
+            int at = bodies.textPlace(place, text);
+            return isPlace(at) ? counted[at] : 0;
         }
 
         private int countAt(int place) {
@@ -768,7 +770,10 @@ public final class NeedTables {
         }
 
         int of(int function, int argument) {
-            return hasArgument(function, argument) ? known[function * MOST_ARGUMENTS + argument] : 0;
+            if (!isFunction(function) || argument < 0 || argument >= MOST_ARGUMENTS) {
+                return 0;
+            }
+            return known[function * MOST_ARGUMENTS + argument];
         }
     }
 
@@ -779,9 +784,11 @@ public final class NeedTables {
     private static final class Machine {
         private static final int OPEN = -1;
         private static final int UNWORKED = -1;
+        /** What a call holds while it waits for none of its texts yet: the one ahead of its first. */
+        private static final int AHEAD_OF_FIRST = -1;
         private static final int SCOPES = MOST_STEPS + 1;
         private static final int SLOTS = SCOPES * MOST_ARGUMENTS;
-        /** A turn begins a text or takes back what came of one: each text is taken back once or so. */
+        /** A turn begins a text or hands back what came of one: a text waits for three at most, a call once more. */
         private static final int MOST_TURNS = 10 * MOST_STEPS;
 
         private final Bodies bodies;
@@ -921,7 +928,9 @@ public final class NeedTables {
             for (int text = 0; text < argumentsOf(callee); text++) {
                 hang(slotOf(made, text), bodies.textPlace(place, text), scope);
             }
-            goOnCalling(place, made, 0);
+            await(place, made, AHEAD_OF_FIRST);
+            // The call goes on as it does behind each of its texts, with the next one.
+            give(NOTHING);
         }
 
         /** Works the next text that must be ahead, from one on; if there is none, the BODY. */
@@ -958,7 +967,9 @@ public final class NeedTables {
                     setSlot(slotOf(waiterScope, bodies.worthAt(waiter)), value);
                     break;
                 case Signs.CALL:
-                    setSlot(slotOf(waiterScope, held), value);
+                    if (held != AHEAD_OF_FIRST) {
+                        setSlot(slotOf(waiterScope, held), value);
+                    }
                     goOnCalling(waiter, waiterScope, held + 1);
                     break;
                 default:
