@@ -1,5 +1,8 @@
 /** Each promise with ordinary inputs, the edges that the document names, and wrong inputs; worked out by hand. */
 public final class PromisesTest extends Given {
+    private static final int PROMISES = 17;
+    private static final boolean[] tested = new boolean[PROMISES + 1];
+
     public static void main(String[] args) {
         newObject();
         say();
@@ -27,10 +30,19 @@ public final class PromisesTest extends Given {
         told();
         byNeedNotByName();
         changesReachAll();
+        for (int number = 1; number <= PROMISES; number++) {
+            checks.holds("there is a test of promise " + number, tested[number]);
+        }
         checks.close("PromisesTest");
     }
 
+    private static void promise(int number, String words) {
+        checks.sentence("Promise " + number + ": " + words);
+        tested[number] = true;
+    }
+
     private static void newObject() {
+        promise(1, "All BODIES are !; the PAD is empty.");
         Subject t = new Subject();
         due("new told(0)", t.told(0), 0);
         due("new wipe", t.wipe(), 0);
@@ -62,6 +74,7 @@ public final class PromisesTest extends Given {
     }
 
     private static void say() {
+        promise(2, "A sign more: how many. OUTSIDE; FULL.");
         Subject t = new Subject();
         int[] outside = {32, 127, 0, -1, 128, 33 + 256, 120 + 65536, MIN, MAX};
         for (int sign : outside) {
@@ -79,6 +92,7 @@ public final class PromisesTest extends Given {
     }
 
     private static void wipe() {
+        promise(3, "The PAD is emptied: how many signs there were.");
         Subject t = with(null, null, null, "+xy");
         t.write("+1");
         due("wipe", t.wipe(), 2);
@@ -94,6 +108,7 @@ public final class PromisesTest extends Given {
     }
 
     private static void fault() {
+        promise(4, "THE FAULT of the PAD for a FUNCTION; NONE. UNKNOWN.");
         for (int function : new int[] {-1, 4, MIN, MAX}) {
             due("fault unknown", new Subject().fault(function), UNKNOWN);
         }
@@ -139,6 +154,7 @@ public final class PromisesTest extends Given {
     }
 
     private static void faultByDepth() {
+        promise(4, "THE FAULT of the PAD for a FUNCTION (within 9 others)");
         due("nine around a number", faultOf("+++++++++0000000000", F), NONE);
         due("nine around an argument", faultOf("fffffffffx", F), NONE);
         due("nine around nothing", faultOf("fffffffff!", F), NONE);
@@ -153,6 +169,8 @@ public final class PromisesTest extends Given {
     }
 
     private static void body() {
+        promise(5, "The PAD becomes the BODY of a FUNCTION (it is empty then): its signs. UNKNOWN; NO: there is a "
+            + "FAULT.");
         Subject t = new Subject();
         for (int function : new int[] {-1, 4, MIN, MAX}) {
             due("body unknown", t.body(function), UNKNOWN);
@@ -184,6 +202,8 @@ public final class PromisesTest extends Given {
     }
 
     private static void node() {
+        promise(6, "Of a NODE of a BODY: 0 its sign, 1 how many NODES it has with all within, 2 within how many others "
+            + "it lies.");
         Subject t = with("?x3+1f-x1", null, "h?xyzk12+zz", null);
         int[][] f = {{'?', 9, 0}, {'x', 1, 1}, {'3', 1, 1}, {'+', 6, 1}, {'1', 1, 2}, {'f', 4, 2}, {'-', 3, 3},
             {'x', 1, 4}, {'1', 1, 4}};
@@ -211,6 +231,7 @@ public final class PromisesTest extends Given {
     }
 
     private static void runEnds() {
+        promise(7, "A RUN: how it ENDS (what = 0), STEPS (1).");
         Subject t = with("x", "6", "fz", "gxy");
         for (int way = 0; way < 4; way++) {
             for (int x = 0; x < 8; x++) {
@@ -238,6 +259,7 @@ public final class PromisesTest extends Given {
     }
 
     private static void runActs() {
+        promise(7, "A RUN: how it ENDS (ACTS and ?)");
         String[] acts = {"+xy", "-xy", "*xy", "mxy"};
         for (int act = 0; act < 4; act++) {
             Subject t = with(null, acts[act], null, null);
@@ -265,6 +287,7 @@ public final class PromisesTest extends Given {
     }
 
     private static void runWays() {
+        promise(7, "A RUN: STEPS (the four WAYS)");
         Subject twice = with("+xx", null, null, "f*xy");
         int[] steps = {10, 7, 7, 7};
         for (int way = 0; way < 4; way++) {
@@ -302,6 +325,7 @@ public final class PromisesTest extends Given {
     }
 
     private static void runScopes() {
+        promise(7, "A RUN: how it ENDS (texts of calls)");
         // A text of a call is worked among the ARGUMENTS of the BODY in which it is written.
         Subject swap = with(null, "-xy", null, "gyx");
         for (int way = 0; way < 4; way++) {
@@ -322,6 +346,7 @@ public final class PromisesTest extends Given {
     }
 
     private static void runAtTheLastStep() {
+        promise(7, "A RUN: how it ENDS (behind 300 STEPS)");
         String k = sum("1", "1", "1", "1", "1", "1", "1", "1", "1", "1", "1");
         String f = sum("k00", "k00", "k00", "k00", "1", "1", "1");
         Subject t = with(f, "1", sum("f0", "f0", "f0", "1", "1"), k);
@@ -350,6 +375,7 @@ public final class PromisesTest extends Given {
     }
 
     private static void runRefuses() {
+        promise(7, "A RUN. UNKNOWN; OUTSIDE: ARGUMENTS, WAY 0 to 3, what.");
         Subject t = with("x", "x", "x", "x");
         int[] rows = {9, 81, 729, 81};
         for (int function = 0; function < 4; function++) {
@@ -368,6 +394,7 @@ public final class PromisesTest extends Given {
     }
 
     private static void may() {
+        promise(8, "TABLE: whether a NUMBER MAY come, if some ARGUMENTS are there (bits): 1, 0. UNKNOWN; OUTSIDE.");
         Subject t = with("x", "?xy3", "+x?yz1", "m!x");
         int[][] want = {{0, 1}, {0, 1, 0, 1}, {0, 0, 0, 1, 0, 0, 0, 1}, {0, 0, 0, 0}};
         for (int function = 0; function < 4; function++) {
@@ -384,6 +411,7 @@ public final class PromisesTest extends Given {
     }
 
     private static void leastTables() {
+        promise(8, "TABLE: whether a NUMBER MAY come (the least ones)");
         Subject endless = with("fx", null, null, null);
         due("nothing comes of itself alone", endless.may(F, 1), 0);
         Subject ring = with("gx1", "hxyy", "kxz", "?x1fy");
@@ -405,6 +433,7 @@ public final class PromisesTest extends Given {
     }
 
     private static void must() {
+        promise(9, "ARGUMENTS that MUST be, as bits. UNKNOWN.");
         Subject t = with("x", "?xy3", "+x?yz1", "m!x");
         due("must F", t.must(F), 1);
         due("must G", t.must(G), 1);
@@ -418,6 +447,7 @@ public final class PromisesTest extends Given {
     }
 
     private static void joint() {
+        promise(10, "JOINTS: how many (i = -1), the i-th by bits; NONE. UNKNOWN.");
         Subject t = with("3", "?0xy", "+x?0yz", "+xy");
         due("no joint", t.joint(F, -1), 0);
         due("no joint 0", t.joint(F, 0), NONE);
@@ -451,6 +481,7 @@ public final class PromisesTest extends Given {
     }
 
     private static void uses() {
+        promise(11, "USES of an ARGUMENT. UNKNOWN.");
         Subject t = with("+xx", "fx", "?x+yyz", "+xgyx");
         due("f many", t.uses(F, 0), 2);
         due("g many by f", t.uses(G, 0), 2);
@@ -484,6 +515,8 @@ public final class PromisesTest extends Given {
     }
 
     private static void part() {
+        promise(12, "Whether a text at a NODE of a BODY MAY come to a NUMBER; ARGUMENTS that it MUST have, as bits. "
+            + "UNKNOWN; OUTSIDE.");
         Subject t = with("?x3+1f-x1", "x", null, "?x!gy!");
         due("f root", t.part(F, 0, 0), 1);
         due("f root must", t.part(F, 0, 1), 1);
@@ -507,6 +540,7 @@ public final class PromisesTest extends Given {
     }
 
     private static void ends() {
+        promise(13, "ENDS by WAY 1: with a NUMBER (what = 0), NOTHING (1), SPENT (2). UNKNOWN; OUTSIDE.");
         Subject t = with("?x!1", "?x?y!gxy?yx1", "+x+yz", "kxy");
         due("f numbers", t.ends(F, 0), 7);
         due("f nothing", t.ends(F, 1), 1);
@@ -520,10 +554,14 @@ public final class PromisesTest extends Given {
         due("what -1", t.ends(F, -1), OUTSIDE);
         due("no function", t.ends(4, 3), UNKNOWN);
         due("no function", t.ends(-1, 0), UNKNOWN);
-        due("by way 1, not 2", with("1", null, null, "?0x!").ends(K, 0), 64);
+        Subject left = with(null, "1", null, "g!x");
+        due("by way 1 the ! is left alone, by way 2 it is not", left.ends(K, 0), 64);
+        due("by way 1 the ! is left alone, by way 2 it is not", left.ends(K, 1), 0);
+        due("SPENT by way 2 alone", with("fx", "1", null, "gxfy").ends(K, 2), 0);
     }
 
     private static void matters() {
+        promise(14, "Whether an ARGUMENT MATTERS: 1, 0. UNKNOWN.");
         Subject t = with("*x0", "?x1?y1!", "?-x3y0", "*4y");
         due("f: times 0", t.matters(F, 0), 0);
         due("g x", t.matters(G, 0), 1);
@@ -545,10 +583,12 @@ public final class PromisesTest extends Given {
         due("h x", rows.matters(H, 0), 0);
         due("h z at its greatest", rows.matters(H, 2), 1);
         due("4 to 7 unlike 0 to 3", with("?x0?-x10?-x20?-x301", null, null, null).matters(F, 0), 1);
+        due("by way 1, not 2", with(null, "y", null, "g!x").matters(K, 0), 1);
         due("NOTHING told is not gone through", with("0", null, null, "?0x!").matters(K, 1), 0);
     }
 
     private static void steps() {
+        promise(15, "STEPS of a WAY. UNKNOWN; OUTSIDE.");
         Subject t = with("+xx", "?x!+1y", null, "f*xy");
         due("f", t.steps(F, 0), 8 * 3);
         for (int way = 0; way < 4; way++) {
@@ -569,6 +609,7 @@ public final class PromisesTest extends Given {
     }
 
     private static void unlike() {
+        promise(16, "UNLIKE by two WAYS: how many (what = 0), the first ARGUMENTS (1; NONE). UNKNOWN; OUTSIDE.");
         Subject t = with("x", "1", "?xyz", "?x2y");
         due("alike", t.unlike(F, 0, 2, 0), 0);
         due("none", t.unlike(F, 0, 2, 1), NONE);
@@ -605,6 +646,7 @@ public final class PromisesTest extends Given {
 
     /** f asks twice, so that eight of it within one another are SPENT by name, and are not by need. */
     private static void byNeedNotByName() {
+        checks.sentence("Promises 13 to 16: by WAY 1, where WAY 0 ends otherwise");
         Subject t = with("mxx", "ffffffffy", null, null);
         due("by name", t.run(G, 5, 0, 0), 9);
         due("by need", t.run(G, 5, 1, 0), 5);
@@ -620,6 +662,7 @@ public final class PromisesTest extends Given {
     }
 
     private static void told() {
+        promise(17, "0 signs, 1 to 4 NODES of BODIES 0 to 3. OUTSIDE.");
         Subject t = with("fx", "+x+y1", "?xyz", null);
         t.write("12");
         int[] want = {2, 2, 5, 4, 1};
@@ -634,6 +677,7 @@ public final class PromisesTest extends Given {
 
     /** What was answered once is answered anew when a BODY that is called has changed. */
     private static void changesReachAll() {
+        checks.sentence("Promises 5 to 16: what a new BODY changes");
         Subject t = with("x", null, null, "+fxfy");
         due("before", t.run(K, 11, 1, 0), 3);
         due("before", t.ends(K, 0), 64);
