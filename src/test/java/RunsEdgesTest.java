@@ -19,6 +19,7 @@ public final class RunsEdgesTest extends Given {
         manyCalls();
         toldArguments();
         scopes();
+        scopesOfLaterCalls();
         byName();
         byNeed();
         byNeedRemembersInItsCall();
@@ -291,6 +292,36 @@ public final class RunsEdgesTest extends Given {
         for (int way = 0; way < 4; way++) {
             due("turned once", turn.run(G, 9 * 3, way, 0), 6);
         }
+    }
+
+    /**
+     * h calls k some times, which calls f some times, all for 0; then it calls g with a 3 and another text. The 3 is
+     * asked for behind the other text, and must still be a 3, whichever call of the RUN this one is.
+     */
+    private static void scopesOfLaterCalls() {
+        checks.sentence("among the ARGUMENTS of the BODY in which it is written (whichever call of the RUN it is)");
+        String[] texts = {"?z12", "+z1", "-z1", "*z1", "mz1"};
+        for (int i = 0; i < texts.length; i++) {
+            for (int callsOfF = 1; callsOfF <= 10; callsOfF++) {
+                for (int callsOfK = 1; callsOfK <= 6; callsOfK++) {
+                    laterCall(texts[i], 0, of(1, 1, 7, 0, 0)[i], callsOfF, callsOfK);
+                    laterCall(texts[i], 5, of(2, 6, 4, 5, 1)[i], callsOfF, callsOfK);
+                }
+            }
+        }
+    }
+
+    private static void laterCall(String text, int z, int comes, int callsOfF, int callsOfK) {
+        String f = sum("f0 ".repeat(callsOfF).split(" "));
+        String k = sum("k00 ".repeat(callsOfK).split(" "));
+        int steps = 8 + callsOfK + 3 * callsOfF * callsOfK;
+        int aheadSteps = steps + 2 * callsOfK + callsOfF * callsOfK;
+        int end = (comes + 8 - 3) % 8;
+        String what = callsOfK + " times k, " + callsOfF + " times f, then 3 and " + text + " of " + z;
+        runs(what, with("0", "-yx", "+" + k + "g3" + text, f), H, z, of(end, end, end, end),
+            of(steps, steps, aheadSteps, steps));
+        runs(what, with("0", "-xy", "+" + k + "g" + text + "3", f), H, z, of(end, end, end, end),
+            of(steps, steps, aheadSteps, steps));
     }
 
     // ---- WAYS
