@@ -7,6 +7,7 @@ public final class OracleTest extends Given {
     private static final int PROGRAMS = 1000;
     /** Of an object's 512 calls: what a new BODY with its questions may take, and what all ARGUMENTS take. */
     private static final int ROOM_FOR_A_CHANGE = 260, ROOM_FOR_ROWS = 50;
+    private static final int LATE_PROGRAMS = 2000;
     private static final int PADS = 20000;
     private static final String SIGNS = "01234567!+-*m?fghkxyz";
 
@@ -18,6 +19,9 @@ public final class OracleTest extends Given {
         }
         for (int i = 0; i < PROGRAMS; i++) {
             program(i);
+        }
+        for (int i = 0; i < LATE_PROGRAMS; i++) {
+            lateProgram();
         }
         checks.close("OracleTest");
     }
@@ -101,6 +105,26 @@ public final class OracleTest extends Given {
         }
         int function = number % 4;
         allArguments(t, oracle, function);
+    }
+
+    /** h makes many calls of k and f first; then comes a text made by chance, whose calls are late ones of the RUN. */
+    private static void lateProgram() {
+        String callsOfF = sum("f0 ".repeat(1 + random.nextInt(10)).split(" "));
+        String callsOfK = sum("k00 ".repeat(1 + random.nextInt(4)).split(" "));
+        String[] texts = {random.nextBoolean() ? "0" : "x", text(G, 0, 20),
+            "+" + callsOfK + text(H, 1, 29 - callsOfK.length()), callsOfF};
+        Subject t = with(texts[F], texts[G], texts[H], texts[K]);
+        Oracle oracle = new Oracle();
+        for (int function = 0; function < 4; function++) {
+            oracle.body(function, texts[function]);
+        }
+        for (int i = 0; i < 60; i++) {
+            int arguments = random.nextInt(729);
+            int way = random.nextInt(4);
+            int[] want = oracle.run(H, arguments, way);
+            due("run(2, " + arguments + ", " + way + ") of " + List.of(texts), t.run(H, arguments, way, 0), want[0]);
+            due("its steps", t.run(H, arguments, way, 1), want[1]);
+        }
     }
 
     private static void tables(Subject t, Oracle oracle) {
