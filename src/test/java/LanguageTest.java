@@ -97,7 +97,7 @@ public final class LanguageTest {
     private static void face() {
         checks.sentence("1. The face");
         TypeElement program = (TypeElement) source.element(source.classes().get(0));
-        checks.due("the class's name", program.getSimpleName().toString().compareTo("NeedTables"), 0);
+        checks.holds("the class's name", program.getSimpleName().contentEquals("NeedTables"));
         checks.holds("public and final", program.getModifiers().equals(Set.of(Modifier.PUBLIC, Modifier.FINAL)));
         Set<String> calls = new TreeSet<>();
         Set<String> constants = new TreeSet<>();
